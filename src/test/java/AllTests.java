@@ -1,0 +1,29 @@
+import java.io.IOException;
+import java.nio.file.Path;
+
+/** Runs every test of the project; ends with exit code 1 if one failed. */
+public final class AllTests {
+    private static final int RANDOM_RUNS = 300;
+
+    private AllTests() { }
+
+    /** The first argument is where Newsfold.java stands. */
+    public static void main(String[] args) throws IOException {
+        TextTests.run();
+        FetchTests.run();
+        ItemTests.run();
+        RuleTests.run();
+        DeskTests.run();
+        MorningTests.run();
+        HouseTests.run();
+        RoomTests.run();
+        LanguageTests.run(Path.of(args.length > 0 ? args[0] : "src/main/java/Newsfold.java"));
+        for (int seed = 0; seed < RANDOM_RUNS; seed++) {
+            Check.is("random run " + seed, RandomRuns.play(seed), "");
+        }
+        System.out.println(Check.passed + " passed, " + Check.failed + " failed");
+        if (Check.failed > 0) {
+            System.exit(1);
+        }
+    }
+}
