@@ -87,7 +87,6 @@ public final class Newsfold {
     private final Rule[] rules = new Rule[MOST_RULES];
     private int ruleCount = 0;
     private final Question[] questions = new Question[QUESTIONS];
-    private final int[] scores = new int[MOST_ITEMS];
     private final Numbers order = new Numbers();
     private final Numbers answer = new Numbers();
     private final Desk[] desks = new Desk[DESKS];
@@ -307,7 +306,7 @@ public final class Newsfold {
         boolean before = items.areApart(one, other);
         if (before != isApart) {
             items.hold(one, other, isApart);
-            stories.build(items);
+            stories.join(items);
         }
         return before ? 1 : 0;
     }
@@ -586,7 +585,8 @@ public final class Newsfold {
             }
         }
         if (answer.size > 0) {
-            stories.build(items);
+            stories.learn(items);
+            stories.join(items);
         }
         return answer.size;
     }
@@ -758,7 +758,8 @@ public final class Newsfold {
             faults += taken == Items.REFUSED ? 1 : 0;
         }
         if (came + changed > 0) {
-            stories.build(items);
+            stories.learn(items);
+            stories.join(items);
         }
         feed.settle(came + changed > 0, faults > 0 && entries == 0, clock);
         feed.faults += faults;
@@ -828,7 +829,7 @@ public final class Newsfold {
         Numbers fresh = desk.nextDigest(clock);
         for (int i = 0; i < order.size; i++) {
             int item = order.at(i);
-            if (!desk.isRead(item) && scores[item] >= bar && desk.isUnlisted(item)) {
+            if (!desk.isRead(item) && items.all[item].score >= bar && desk.isUnlisted(item)) {
                 desk.noteListed(item);
                 fresh.add(item);
             }
@@ -922,12 +923,12 @@ public final class Newsfold {
         return signs;
     }
 
-    /** Puts the KEPT ITEMS into order, and their SCORES into scores, as they are now. */
+    /** Puts the KEPT ITEMS into order by their SCORES as they are now, and tells each of them its own. */
     private void rank() {
         order.empty();
         for (int i = 0; i < MOST_ITEMS; i++) {
             if (items.isKept(i)) {
-                scores[i] = scoreOf(i);
+                items.all[i].score = scoreOf(i);
                 int place = order.size;
                 while (place > 0 && isAhead(i, order.at(place - 1))) {
                     place--;
@@ -938,12 +939,12 @@ public final class Newsfold {
     }
 
     private boolean isAhead(int one, int other) {
-        if (scores[one] != scores[other]) {
-            return scores[one] > scores[other];
+        Item first = items.all[one];
+        Item second = items.all[other];
+        if (first.score != second.score) {
+            return first.score > second.score;
         }
-        int oneTime = items.all[one].time;
-        int otherTime = items.all[other].time;
-        return oneTime != otherTime ? oneTime > otherTime : one < other;
+        return first.time != second.time ? first.time > second.time : one < other;
     }
 
     /** Puts the LIST of a VIEW into answer; rank() has to be called before. */
@@ -987,7 +988,7 @@ public final class Newsfold {
             case 1: return items.all[item].feed == value;
             case 2: return desk.valueOf(item, READ) == value;
             case 3: return desk.valueOf(item, STAR) == value;
-            case 4: return scores[item] >= value;
+            case 4: return items.all[item].score >= value;
             case 5: return desk.valueOf(item, FOLDER) == value;
             case 6: return desk.valueOf(item, NOTE) == value;
             default: return stories.size[item] >= value;
@@ -1145,7 +1146,7 @@ public final class Newsfold {
 
     private boolean areScoresSound() {
         for (int i = 0; i < MOST_ITEMS; i++) {
-            int left = items.isKept(i) ? scores[i] : 0;
+            int left = items.isKept(i) ? items.all[i].score : 0;
             for (int r = 0; r < ruleCount; r++) {
                 left -= items.isKept(i) && doesFit(rules[r], i) ? rules[r].points : 0;
             }
@@ -1561,11 +1562,15 @@ public final class Newsfold {
         int words = 0;
         /** Where WORDS begin in text, and behind the last one, where one more would. */
         final int[] start = new int[MOST_WORDS + 1];
+        /** A number by the signs of each WORD: where these are unlike, the WORDS are. */
+        private final int[] code = new int[MOST_WORDS];
         /** Which of the 64 WORDS are in text, as a set. */
         long shortWords = 0L;
         int changed = 0;
         int change = 0;
         int cameAt = 0;
+        /** As it was when ITEMS were ranked last. */
+        int score = 0;
 
         void become(int newTime, String newText) {
             time = newTime;
@@ -1573,16 +1578,21 @@ public final class Newsfold {
             words = 0;
             shortWords = 0L;
             int from = 0;
+            int itsCode = 0;
             for (int i = 0; i <= text.length(); i++) {
                 if (i == text.length() || text.charAt(i) == ' ') {
-                    addWord(from, i);
+                    addWord(from, i, itsCode);
                     from = i + 1;
+                    itsCode = 0;
+                } else {
+                    itsCode = itsCode * 31 + text.charAt(i);
                 }
             }
         }
 
-        private void addWord(int from, int to) {
+        private void addWord(int from, int to, int itsCode) {
             if (words < MOST_WORDS) {
+                code[words] = itsCode;
                 start[words] = from;
                 words++;
                 start[words] = to + 1;
@@ -1601,6 +1611,9 @@ public final class Newsfold {
         }
 
         boolean isSameWord(int word, Item other, int otherWord) {
+            if (code[word] != other.code[otherWord]) {
+                return false;
+            }
             int signs = signsOfWord(word);
             if (signs != other.signsOfWord(otherWord)) {
                 return false;
@@ -1702,6 +1715,11 @@ public final class Newsfold {
             return count;
         }
 
+        /** Whether their TIMES are near enough for a STORY, and no hand holds them APART. */
+        boolean mayJoin(int one, int other) {
+            return Math.abs(all[one].time - all[other].time) <= AKIN_MINUTES && !areApart(one, other);
+        }
+
         boolean areApart(int one, int other) {
             return (apartFrom[one] >>> other & 1L) != 0L;
         }
@@ -1757,8 +1775,8 @@ public final class Newsfold {
     private static final class Stories {
         /** For each WORD of an ITEM the first place at which it stands in any, or NONE. */
         private final int[] word = new int[MOST_ITEMS * MOST_WORDS];
-        /** By that place, how many ITEMS have the WORD. */
-        private final int[] havers = new int[MOST_ITEMS * MOST_WORDS];
+        /** By that place, which ITEMS have the WORD, as a set. */
+        private final long[] havers = new long[MOST_ITEMS * MOST_WORDS];
         private final long[] akin = new long[MOST_ITEMS];
         /** The smallest number in the STORY of each KEPT ITEM. */
         final int[] number = new int[MOST_ITEMS];
@@ -1769,14 +1787,19 @@ public final class Newsfold {
             Arrays.fill(number, NONE);
         }
 
-        void build(Items items) {
+        /** To be called ahead of join() when TEXTS came, changed, or went. */
+        void learn(Items items) {
             Arrays.fill(word, NONE);
-            Arrays.fill(havers, 0);
+            Arrays.fill(havers, 0L);
             for (int i = 0; i < MOST_ITEMS; i++) {
                 if (items.isKept(i)) {
                     placeWords(items, i);
                 }
             }
+        }
+
+        /** To be called when ITEMS or pairs APART are other ones. */
+        void join(Items items) {
             for (int i = 0; i < MOST_ITEMS; i++) {
                 akin[i] = akinOf(items, i);
             }
@@ -1793,10 +1816,8 @@ public final class Newsfold {
             int first = item * MOST_WORDS;
             for (int k = 0; k < items.all[item].words; k++) {
                 int place = firstPlace(items, item, k);
-                if (!isAmong(place, first, first + k)) {
-                    havers[place]++;
-                }
                 word[first + k] = place;
+                havers[place] |= 1L << item;
             }
         }
 
@@ -1810,47 +1831,50 @@ public final class Newsfold {
             return own;
         }
 
-        private boolean isAmong(int place, int start, int end) {
-            for (int i = start; i < end; i++) {
-                if (word[i] == place) {
-                    return true;
+        /** Whether a place has a RARE WORD that does not stand ahead of it in the same ITEM. */
+        private boolean isNewRare(int place) {
+            int first = word[place];
+            if (first == NONE || Long.bitCount(havers[first]) > RARE) {
+                return false;
+            }
+            for (int i = place - place % MOST_WORDS; i < place; i++) {
+                if (word[i] == first) {
+                    return false;
                 }
             }
-            return false;
-        }
-
-        private boolean isRare(int place) {
-            return place >= 0 && place < havers.length && havers[place] <= RARE;
+            return true;
         }
 
         /** How many unlike RARE WORDS both have. */
         int rareInBoth(int one, int other) {
             int count = 0;
             int first = one * MOST_WORDS;
-            int otherFirst = other * MOST_WORDS;
             for (int i = first; i < first + MOST_WORDS; i++) {
-                if (isRare(word[i]) && !isAmong(word[i], first, i)
-                    && isAmong(word[i], otherFirst, otherFirst + MOST_WORDS)) {
+                if (isNewRare(i) && (havers[word[i]] >>> other & 1L) != 0L) {
                     count++;
                 }
             }
             return count;
         }
 
+        /** Those that are AKIN to an ITEM, as a set: they have two of its RARE WORDS, and nothing parts them. */
         private long akinOf(Items items, int one) {
+            long once = 0L;
+            long twice = 0L;
+            int first = one * MOST_WORDS;
+            for (int i = first; i < first + MOST_WORDS; i++) {
+                if (isNewRare(i)) {
+                    twice |= once & havers[word[i]];
+                    once |= havers[word[i]];
+                }
+            }
             long set = 0L;
             for (int other = 0; other < MOST_ITEMS; other++) {
-                if (other != one && areAkin(items, one, other)) {
+                if ((twice >>> other & 1L) != 0L && other != one && items.mayJoin(one, other)) {
                     set |= 1L << other;
                 }
             }
             return set;
-        }
-
-        private boolean areAkin(Items items, int one, int other) {
-            return items.isKept(one) && items.isKept(other)
-                && Math.abs(items.all[one].time - items.all[other].time) <= AKIN_MINUTES
-                && !items.areApart(one, other) && rareInBoth(one, other) >= AKIN_WORDS;
         }
 
         /** The set of all to which one comes from an ITEM by AKIN ones, with itself. */
@@ -1888,26 +1912,30 @@ public final class Newsfold {
             return count;
         }
 
+        /** Whether each STORY is what one comes to by going from ITEM to ITEM. */
         boolean areRight(Items items) {
             for (int i = 0; i < MOST_ITEMS; i++) {
-                if (akin[i] != akinOf(items, i) || items.isKept(i) != (number[i] != NONE)) {
-                    return false;
-                }
-                if (items.isKept(i) && (reached(i) != membersOf(number[i]) || number[number[i]] != number[i])) {
+                if (items.isKept(i) ? !isRight(items, i) : number[i] != NONE) {
                     return false;
                 }
             }
             return true;
         }
 
-        private long membersOf(int story) {
-            long set = 0L;
+        private boolean isRight(Items items, int item) {
+            long members = 0L;
+            int smallest = NONE;
             for (int i = 0; i < MOST_ITEMS; i++) {
-                if (number[i] == story) {
-                    set |= 1L << i;
+                boolean isAkin = i != item && items.mayJoin(item, i) && rareInBoth(item, i) >= AKIN_WORDS;
+                if (isAkin != ((akin[item] >>> i & 1L) != 0L)) {
+                    return false;
+                }
+                if (number[i] == number[item]) {
+                    members |= 1L << i;
+                    smallest = smallest == NONE ? i : smallest;
                 }
             }
-            return set;
+            return members == reached(item) && smallest == number[item] && size[item] == Long.bitCount(members);
         }
     }
 

@@ -16,6 +16,7 @@ public final class AllTests {
         DeskTests.run();
         MorningTests.run();
         HouseTests.run();
+        SoundTests.run();
         RoomTests.run();
         LanguageTests.run(Path.of(args.length > 0 ? args[0] : "src/main/java/Newsfold.java"));
         for (int seed = 0; seed < RANDOM_RUNS; seed++) {

@@ -74,6 +74,12 @@ final class HouseTests {
         String before = Check.whole(x);
         x.digest();
         Check.is("digest changes nothing", Check.whole(x), before);
+        Newsfold y = Check.fetched("1,0,aa");
+        for (int d = 0; d < 3; d++) {
+            y.upTo(d, 0);
+        }
+        Check.is("what is READ at once would go by 0 alone", y.would(0) + "|" + y.would(1), "0|");
+        Check.is("digest has would(0)", y.digest(), told(y));
     }
 
     private static long sum;

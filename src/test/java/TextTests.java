@@ -62,6 +62,8 @@ final class TextTests {
         Check.argument("say wrongly and too much", x, () -> x.say(0, 0, 0, 0, 0, 27));
         Check.is("say at 120: away and again", x.say(25, 0, 25, 1, -1, -1), 120);
         Check.state("say from 120 on", x, () -> x.say(0, 25, -1, -1, -1, -1));
+        Check.state("say at 120: away and two", x, () -> x.say(25, 0, 0, -1, -1, -1));
+        Check.state("say at 120: the last one is too much", x, () -> x.say(25, 0, 25, 0, -1, 0));
         Check.is("say 26 at 120", x.say(26, -1, -1, -1, -1, -1), 0);
     }
 
