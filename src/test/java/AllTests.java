@@ -9,6 +9,7 @@ public final class AllTests {
 
     /** The first argument is where Newsfold.java stands. */
     public static void main(String[] args) throws IOException {
+        Sentence.read(Path.of(args.length > 1 ? args[1] : "../shared/DOC.md"));
         TextTests.run();
         FetchTests.run();
         ItemTests.run();
@@ -16,6 +17,9 @@ public final class AllTests {
         DeskTests.run();
         MorningTests.run();
         HouseTests.run();
+        TextEdges.run();
+        TextCallEdges.run();
+        FetchEdges.run();
         SoundTests.run();
         RoomTests.run();
         LanguageTests.run(Path.of(args.length > 0 ? args[0] : "src/main/java/Newsfold.java"));

@@ -81,9 +81,14 @@ final class Check {
     /** TYPED becomes that text. */
     static void type(Newsfold x, String text) {
         x.say(26, -1, -1, -1, -1, -1);
-        for (int i = 0; i < text.length(); i++) {
-            x.say("abcdefgh 0123456789;,<>/:".indexOf(text.charAt(i)), -1, -1, -1, -1, -1);
+        for (int i = 0; i < text.length(); i += 6) {
+            x.say(codeAt(text, i), codeAt(text, i + 1), codeAt(text, i + 2), codeAt(text, i + 3), codeAt(text, i + 4),
+                codeAt(text, i + 5));
         }
+    }
+
+    private static int codeAt(String text, int place) {
+        return place < text.length() ? "abcdefgh 0123456789;,<>/:".indexOf(text.charAt(place)) : -1;
     }
 
     /** A text becomes the PAGE of a FEED. */
