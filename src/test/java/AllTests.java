@@ -20,6 +20,8 @@ public final class AllTests {
         TextEdges.run();
         TextCallEdges.run();
         FetchEdges.run();
+        DeskEdges.run();
+        DeskCallEdges.run();
         SoundTests.run();
         RoomTests.run();
         LanguageTests.run(Path.of(args.length > 0 ? args[0] : "src/main/java/Newsfold.java"));

@@ -28,7 +28,18 @@ final class Edge {
     static void leaves(String what, Supplier<Newsfold> state, Object due, Call call) {
         Newsfold x = state.get();
         Check.is(what, answer(x, call), due);
-        Check.is(what + " changes nothing", whole(x), whole(state.get()));
+        Check.is(what + " changes nothing", firstUnlike(whole(x), whole(state.get())), "");
+    }
+
+    private static String firstUnlike(String got, String due) {
+        String[] some = got.split("\n", -1);
+        String[] other = due.split("\n", -1);
+        for (int i = 0; i < Math.min(some.length, other.length); i++) {
+            if (!some[i].equals(other[i])) {
+                return "line " + i + ": " + some[i] + ", and without the call: " + other[i];
+            }
+        }
+        return some.length == other.length ? "" : some.length + " lines, and without the call: " + other.length;
     }
 
     static void index(String what, Supplier<Newsfold> state, Call call) {
