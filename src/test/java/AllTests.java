@@ -20,6 +20,8 @@ public final class AllTests {
         TextEdges.run();
         TextCallEdges.run();
         FetchEdges.run();
+        StoryEdges.run();
+        StoryCallEdges.run();
         DeskEdges.run();
         DeskCallEdges.run();
         SoundTests.run();
