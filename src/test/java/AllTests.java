@@ -24,7 +24,10 @@ public final class AllTests {
         StoryCallEdges.run();
         DeskEdges.run();
         DeskCallEdges.run();
+        MorningEdges.run();
+        HouseEdges.run();
         SoundTests.run();
+        Sentence.checkThatAllAreQuoted();
         RoomTests.run();
         LanguageTests.run(Path.of(args.length > 0 ? args[0] : "src/main/java/Newsfold.java"));
         for (int seed = 0; seed < RANDOM_RUNS; seed++) {

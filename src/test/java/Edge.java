@@ -28,7 +28,12 @@ final class Edge {
     static void leaves(String what, Supplier<Newsfold> state, Object due, Call call) {
         Newsfold x = state.get();
         Check.is(what, answer(x, call), due);
-        Check.is(what + " changes nothing", firstUnlike(whole(x), whole(state.get())), "");
+        same(what + " changes nothing", x, state.get());
+    }
+
+    /** Both are spent behind that. */
+    static void same(String what, Newsfold x, Newsfold due) {
+        Check.is(what, firstUnlike(whole(x), whole(due)), "");
     }
 
     private static String firstUnlike(String got, String due) {

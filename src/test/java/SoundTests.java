@@ -44,6 +44,7 @@ final class SoundTests {
     }
 
     private static void names() {
+        Sentence.of(49, "no two ITEMS that came have FEED and NAME alike;");
         Newsfold x = state();
         set(x, "items.all.2.name", 2);
         broken("FEED and NAME alike", x);
@@ -57,6 +58,7 @@ final class SoundTests {
     }
 
     private static void stories() {
+        Sentence.of(49, "each STORY is what one comes to by going from ITEM to ITEM;");
         Newsfold x = state();
         set(x, "stories.number.2", 0);
         broken("a STORY with one too many", x);
@@ -78,6 +80,7 @@ final class SoundTests {
     }
 
     private static void marks() {
+        Sentence.of(49, "a MARK has a value other than 0 only with a STAMP, of which the count is no more than the ROW of its DESK has for the DESK that it tells;");
         Newsfold x = state();
         set(x, "desks.0.value.0", 1);
         broken("a value without a STAMP", x);
@@ -90,6 +93,8 @@ final class SoundTests {
     }
 
     private static void rows() {
+        Sentence.of(49, "no KNOWN number is above that of the ROW it is of;");
+        Sentence.of(49, "DESKS with the same ROW have the same MARKS and STAMPS;");
         Newsfold x = state();
         set(x, "desks.1.knows.0", (int) get(x, "desks.0.row.0") + 1);
         broken("KNOWN above the ROW that it is of", x);
@@ -110,6 +115,7 @@ final class SoundTests {
     }
 
     private static void digests() {
+        Sentence.of(49, "DIGESTS that are kept hold no ITEM twice for a DESK;");
         Newsfold x = state();
         Check.is("the DIGEST", x.morning(0, 0), "50: 2 1 0");
         set(x, "desks.0.digests.0.row.2", 2);
@@ -126,6 +132,7 @@ final class SoundTests {
     }
 
     private static void shownAndApart() {
+        Sentence.of(49, "SHOWN and pairs APART are of KEPT ITEMS;");
         Newsfold x = state();
         set(x, "shown.row.0", 3);
         broken("SHOWN is GONE", x);
@@ -136,6 +143,7 @@ final class SoundTests {
     }
 
     private static void feeds() {
+        Sentence.of(49, "and no FEED is DUE ahead of CLOCK.");
         Newsfold x = state();
         set(x, "feeds.1.due", x.house(3) - 1);
         broken("a FEED that was DUE", x);

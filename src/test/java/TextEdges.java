@@ -296,6 +296,7 @@ final class TextEdges {
     }
 
     private static void parts() {
+        of("If it is \">\", what lies between both is parted at each \"/\":");
         of("it is an ENTRY, if that makes two or three parts");
         Check.is("one", read(1, "<a>") + "|" + read(1, "<1>") + "|" + read(1, "<>"), "0 1|0 1|0 1");
         Check.is("two", read(1, "<a/1>"), "1 0");
