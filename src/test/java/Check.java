@@ -30,9 +30,9 @@ final class Check {
         refused(what, x, "IllegalStateException", call);
     }
 
-    /** The call throws just that, and nothing that one can ask for is another one behind it. */
+    /** The call throws just that, and the checksum is as before (Edge compares all that one can ask for). */
     private static void refused(String what, Newsfold x, String exception, Call call) {
-        String before = whole(x);
+        long before = x.digest();
         String got;
         try {
             got = String.valueOf(call.run());
@@ -40,33 +40,7 @@ final class Check {
             got = e.getClass().getSimpleName();
         }
         is(what, got, exception);
-        is(what + " changes nothing", whole(x), before);
-    }
-
-    /** All that one can ask for. */
-    static String whole(Newsfold x) {
-        StringBuilder all = new StringBuilder();
-        all.append(x.digest()).append('\n').append(x.typed()).append('\n').append(x.out()).append('\n').append(x.shown());
-        for (int f = 0; f < x.house(0); f++) {
-            all.append('\n').append(x.page(f));
-        }
-        for (int n = 0; n < 7; n++) {
-            all.append('\n').append(x.fetched(n));
-        }
-        for (int i = 0; i < x.house(2); i++) {
-            if (isKept(x, i)) {
-                all.append('\n').append(x.text(i)).append('|').append(x.reasons(i)).append('|').append(x.story(i));
-            }
-        }
-        for (int desk = 0; desk < 3; desk++) {
-            for (int view = 0; view < 10; view++) {
-                all.append('\n').append(x.list(desk, view));
-            }
-            for (int nth = 0; nth < 4; nth++) {
-                all.append('\n').append(x.morning(desk, nth));
-            }
-        }
-        return all.append('\n').append(x.would(0)).append('|').append(x.would(600)).toString();
+        is(what + " changes nothing", x.digest(), before);
     }
 
     static boolean isKept(Newsfold x, int item) {

@@ -307,10 +307,20 @@ final class HouseEdges {
 
     private static void eachValue() {
         Sentence.of(50, "for each v in this order:");
-        Check.is("a rich one", Edge.rich().digest(), HouseTests.told(Edge.rich()));
-        Check.is("a full one", full().digest(), HouseTests.told(full()));
-        Check.is("40 alone", Edge.forty().digest(), HouseTests.told(Edge.forty()));
-        Check.is("40 in one STORY", StoryEdges.chain().digest(), HouseTests.told(StoryEdges.chain()));
+        told("a rich one", Edge::rich);
+        told("a full one", HouseEdges::full);
+        told("40 alone", Edge::forty);
+        told("40 in one STORY", StoryEdges::chain);
+        told("40 with RULES and MARKS", () -> ruled(Edge.forty()));
+        told("40 that would go", HouseEdges::going);
+        told("nothing is KEPT", HouseEdges::gone);
+    }
+
+    private static void told(String what, Supplier<Newsfold> state) {
+        Check.is(what, state.get().digest(), HouseTests.told(state));
+    }
+
+    private static Newsfold going() {
         Newsfold x = Edge.forty();
         for (int desk = 0; desk < 3; desk++) {
             x.upTo(desk, 20);
@@ -323,8 +333,12 @@ final class HouseEdges {
         x.open(0, 9);
         x.tick(600);
         x.send(0, 1);
-        Check.is("40 that would go", x.digest(), HouseTests.told(x));
-        x.forget(0);
-        Check.is("nothing is KEPT", x.house(1) + " " + x.digest(), "0 " + HouseTests.told(x));
+        return x;
+    }
+
+    private static Newsfold gone() {
+        Newsfold x = going();
+        Check.is("all of them go", x.forget(0) + " " + x.house(1), "40 0");
+        return x;
     }
 }

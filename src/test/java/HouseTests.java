@@ -1,3 +1,7 @@
+import java.util.ArrayList;
+import java.util.List;
+import java.util.function.Supplier;
+
 /** Promises 47 to 50: the house, whether all is sound, the checksum. */
 final class HouseTests {
     private HouseTests() { }
@@ -58,92 +62,123 @@ final class HouseTests {
     }
 
     private static void isSound() {
-        Newsfold x = full();
-        Check.is("isSound", x.isSound(), true);
-        String before = Check.whole(x);
-        x.isSound();
-        Check.is("isSound changes nothing", Check.whole(x), before);
+        Check.is("isSound", full().isSound(), true);
+        Edge.asks("isSound", HouseTests::full, Newsfold::isSound);
     }
 
     private static void digest() {
-        Check.is("digest of a new object", new Newsfold().digest(), told(new Newsfold()));
-        Newsfold x = full();
-        Check.is("digest", x.digest(), told(x));
-        x.mark(0, 0, 3, 1);
-        Check.is("digest of another state", x.digest(), told(x));
-        String before = Check.whole(x);
-        x.digest();
-        Check.is("digest changes nothing", Check.whole(x), before);
-        Newsfold y = Check.fetched("1,0,aa");
-        for (int d = 0; d < 3; d++) {
-            y.upTo(d, 0);
-        }
+        Check.is("digest of a new object", new Newsfold().digest(), told(Newsfold::new));
+        Check.is("digest", full().digest(), told(HouseTests::full));
+        Check.is("digest of another state", other().digest(), told(HouseTests::other));
+        Edge.asks("digest", HouseTests::full, Newsfold::digest);
+        Newsfold y = read();
         Check.is("what is READ at once would go by 0 alone", y.would(0) + "|" + y.would(1), "0|");
-        Check.is("digest has would(0)", y.digest(), told(y));
+        Check.is("digest has would(0)", y.digest(), told(HouseTests::read));
     }
 
+    private static Newsfold other() {
+        Newsfold x = full();
+        x.mark(0, 0, 3, 1);
+        return x;
+    }
+
+    private static Newsfold read() {
+        Newsfold x = Check.fetched("1,0,aa");
+        for (int d = 0; d < 3; d++) {
+            x.upTo(d, 0);
+        }
+        return x;
+    }
+
+    private static final int MOST_ASKS = 250;
     private static long sum;
+    private static Supplier<Newsfold> state;
+    private static Newsfold asked;
+    private static int asks;
 
     private static void mix(long v) {
         sum = sum * 31 + v;
     }
 
+    /** The object to ask: another one with the same state, before it gets too many calls. */
+    private static Newsfold x() {
+        asks++;
+        if (asks > MOST_ASKS) {
+            asks = 0;
+            asked = state.get();
+        }
+        return asked;
+    }
+
     /** The checksum as the document tells it, by the other calls alone. */
-    static long told(Newsfold x) {
+    static long told(Supplier<Newsfold> itsState) {
+        state = itsState;
+        asked = state.get();
+        asks = 0;
         sum = 7310;
         for (int what = 0; what < 12; what++) {
-            mix(x.house(what));
+            mix(x().house(what));
         }
-        for (int f = 0; f < x.house(0); f++) {
+        int feeds = x().house(0);
+        for (int f = 0; f < feeds; f++) {
             for (int what = 0; what < 9; what++) {
-                mix(x.ofFeed(f, what));
+                mix(x().ofFeed(f, what));
             }
         }
-        mix(x.fetched(0).length());
-        for (int i = 0; i < x.house(2); i++) {
-            if (Check.isKept(x, i)) {
-                mix(i);
-                for (int what = 0; what < 11; what++) {
-                    mix(x.ofItem(i, what));
-                }
-                mix(x.text(i).length());
-                mix(x.reasons(i).length());
+        mix(x().fetched(0).length());
+        List<Integer> kept = kept();
+        for (int i : kept) {
+            mix(i);
+            for (int what = 0; what < 11; what++) {
+                mix(x().ofItem(i, what));
             }
+            mix(x().text(i).length());
+            mix(x().reasons(i).length());
         }
         for (int d = 0; d < 3; d++) {
-            mixDesk(x, d);
+            mixDesk(d, kept);
         }
-        for (int l = 0; l < x.house(5); l++) {
+        int letters = x().house(5);
+        for (int l = 0; l < letters; l++) {
             for (int what = 0; what < 6; what++) {
-                mix(x.ofLetter(l, what));
+                mix(x().ofLetter(l, what));
             }
         }
-        mix(x.unlike());
-        mix(x.shown().length());
-        mix(x.would(0).length());
-        mix(x.isSound() ? 1 : 0);
+        mix(x().unlike());
+        mix(x().shown().length());
+        mix(x().would(0).length());
+        mix(x().isSound() ? 1 : 0);
         return sum;
     }
 
-    private static void mixDesk(Newsfold x, int desk) {
+    private static List<Integer> kept() {
+        List<Integer> kept = new ArrayList<>();
+        int came = x().house(2);
+        for (int i = 0; i < came; i++) {
+            if (Check.isKept(x(), i)) {
+                kept.add(i);
+            }
+        }
+        return kept;
+    }
+
+    private static void mixDesk(int desk, List<Integer> kept) {
         for (int what = 0; what < 10; what++) {
-            mix(x.ofDesk(desk, what));
+            mix(x().ofDesk(desk, what));
         }
         for (int other = 0; other < 3; other++) {
             for (int of = 0; of < 3; of++) {
-                mix(x.known(desk, other, of));
+                mix(x().known(desk, other, of));
             }
         }
         for (int view = 0; view < 10; view++) {
-            mix(x.list(desk, view).length());
+            mix(x().list(desk, view).length());
         }
-        mix(x.morning(desk, 0).length());
-        for (int i = 0; i < x.house(2); i++) {
-            if (Check.isKept(x, i)) {
-                for (int what = 0; what < 4; what++) {
-                    mix(x.marked(desk, i, what, false));
-                    mix(x.marked(desk, i, what, true));
-                }
+        mix(x().morning(desk, 0).length());
+        for (int i : kept) {
+            for (int what = 0; what < 4; what++) {
+                mix(x().marked(desk, i, what, false));
+                mix(x().marked(desk, i, what, true));
             }
         }
     }

@@ -40,7 +40,7 @@ final class SoundTests {
 
     private static void broken(String what, Newsfold x) {
         Check.is("isSound: " + what, x.isSound(), false);
-        Check.is("digest tells it: " + what, x.digest(), HouseTests.told(x));
+        Check.is("digest tells it: " + what, x.digest(), HouseTests.told(() -> x));
     }
 
     private static void names() {
