@@ -445,6 +445,12 @@ final class DeskCallEdges {
         Newsfold w = Edge.forty();
         w.upTo(0, 20);
         Check.is("40", w.unlike(), 40);
+        Newsfold v = three();
+        Edge.readOnAll(v, 0);
+        v.tick(10);
+        v.forget(0);
+        v.mark(0, 1, 0, 1);
+        Check.is("one behind what is GONE", v.unlike(), 1);
         Edge.asks("unlike", Edge::rich, Newsfold::unlike);
     }
 

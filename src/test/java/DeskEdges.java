@@ -379,6 +379,27 @@ final class DeskEdges {
         Edge.readOnAll(y, 0);
         y.forget(0);
         Check.is("an ITEM that is not KEPT", y.arrive(0, false) + " " + y.marked(1, 1, 3, false) + " " + y.ofDesk(1, 1), "1 4 0");
+        Newsfold w = three();
+        w.tick(30);
+        w.mark(0, 0, 0, 1);
+        w.mark(0, 1, 0, 1);
+        w.mark(0, 2, 0, 1);
+        w.mark(0, 2, 1, 1);
+        w.send(0, 1);
+        Edge.readOnAll(w, 0);
+        w.forget(0);
+        Check.is("the MARKS round those of one that is not KEPT", w.arrive(0, false) + " " + w.ofDesk(1, 1) + w.marked(1, 1, 0, false)
+            + w.marked(1, 2, 1, false), "3 211");
+        Newsfold v = three();
+        v.tick(30);
+        v.mark(0, 1, 0, 1);
+        v.mark(0, 1, 1, 1);
+        v.mark(0, 1, 3, 1);
+        v.send(0, 1);
+        v.mark(0, 1, 1, 0);
+        Edge.readOnAll(v, 1);
+        v.forget(0);
+        Check.is("READ, STAR, NOTE of one that is not KEPT", v.arrive(0, false) + " " + v.ofDesk(1, 1) + v.ofDesk(1, 2) + v.unlike(), "0 000");
         Check.is("no trace of it", y.isSound() + " " + Edge.answer(y, z -> z.marked(1, 0, 3, true)),
             "true throws.IndexOutOfBoundsException");
     }

@@ -169,6 +169,13 @@ final class FetchEdges {
         Check.is("a TEXT of five WORDS", x.ofItem(0, 3) + x.text(0), "5c d e f g");
         Edge.refetched(x, "1,9,h");
         Check.is("then one of one WORD", x.ofItem(0, 3) + x.text(0) + x.common(0, 0), "1h1");
+        Newsfold y = Edge.fetched(0, "0,0,aa bb;1,0,ab aa bb");
+        y.rule(0, 0, 1);
+        y.ask(0, 0, 9, false);
+        Edge.refetched(y, "1,1,ac");
+        Check.is("no WORD of the TEXT before is in it", y.search(0, -1) + y.search(1, -1) + y.reasons(1) + y.list(0, 7), "00");
+        Check.is("nor joins it to another one", y.common(1, 0) + " " + y.common(0, 1) + " " + y.story(1), "0 0 1");
+        Check.is("the new one is", y.search(2, -1), "1");
     }
 
     private static void changeIsASet() {

@@ -314,6 +314,46 @@ final class HouseEdges {
         told("40 with RULES and MARKS", () -> ruled(Edge.forty()));
         told("40 that would go", HouseEdges::going);
         told("nothing is KEPT", HouseEdges::gone);
+        told("one would go, if CLOCK were one more", HouseEdges::young);
+        for (int digests = 1; digests < 8; digests++) {
+            int made = digests;
+            told(made + " DIGESTS", () -> mornings(made));
+        }
+        for (int clock : new int[] {1, 9, 10, 11, 89, 90, 99, 100, 109, 110, 111, 899, 900, 999, 1000, 1099, 9999, 10000, 10999, 20000}) {
+            told("a FETCH and a DIGEST at CLOCK " + clock, () -> at(clock));
+        }
+    }
+
+    private static Newsfold young() {
+        Newsfold x = Edge.fetched(0, "0,1,a");
+        Edge.readOnAll(x, 0);
+        return x;
+    }
+
+    /** So many DIGESTS of DESK 1, with less and less ITEMS in them. */
+    private static Newsfold mornings(int digests) {
+        Newsfold x = Edge.forty();
+        for (int i = 0; i < digests; i++) {
+            Edge.refetched(x, "");
+            x.bar(i == 0 ? 1 : 0);
+            x.unrule(x.rule(1, 0, 0));
+            x.upTo(1, Math.max(20, 39 - 5 * i));
+            x.zone(1, 0, i + 1);
+            x.tick(1);
+        }
+        return x;
+    }
+
+    private static Newsfold at(int clock) {
+        Newsfold x = new Newsfold();
+        x.feed(0);
+        for (int i = 600; i < clock; i += 600) {
+            x.tick(600);
+        }
+        x.zone(2, 0, clock % 1440);
+        x.tick((clock - 1) % 600 + 1);
+        Edge.refetched(x, ":;:;:;:;:;:;:;:;:;:;:");
+        return x;
     }
 
     private static void told(String what, Supplier<Newsfold> state) {

@@ -294,6 +294,9 @@ final class MorningEdges {
         w.mark(1, 0, 1, 1);
         Check.is("one of 40 is not OLD", w.forget(0), 0);
         w.mark(1, 0, 1, 0);
+        w.mark(2, 39, 1, 1);
+        Check.is("the last of 40 is not OLD", w.would(0) + w.forget(0), "0");
+        w.mark(2, 39, 1, 0);
         Check.is("all of 40", w.forget(0) + " " + w.house(1) + w.house(7) + w.list(0, 0), "40 00");
     }
 
@@ -330,6 +333,14 @@ final class MorningEdges {
         Check.is("pairs", x.house(8) + " " + x.apart(1, 2, true), "1 1");
         Check.is("MARKS", x.unlike() + x.ofDesk(1, 1) + x.ofDesk(1, 3) + " " + x.send(1, 0) + x.ofLetter(0, 2), "0 00");
         Check.is("COUNT and ROW stay", x.ofDesk(1, 0) + " " + x.known(1, 1, 1), "3 3");
+        Newsfold y = Edge.forty();
+        y.apart(0, 5, true);
+        y.apart(39, 5, true);
+        y.apart(0, 39, true);
+        Edge.readOnAll(y, 5);
+        y.tick(600);
+        Check.is("pairs with the first and the last of 40", y.forget(0) + " " + y.house(8) + " " + y.apart(0, 39, false) + " "
+            + y.isSound(), "1 1 1 true");
         Check.is("sound", x.isSound(), true);
     }
 

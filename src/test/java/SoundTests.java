@@ -71,6 +71,11 @@ final class SoundTests {
         x = state();
         set(x, "stories.size.1", 3);
         broken("a STORY that tells another size", x);
+        for (int alone : new int[] {0, 20, 39}) {
+            x = Edge.forty();
+            set(x, "stories.size." + alone, 2);
+            broken("a STORY of one that tells another size", x);
+        }
         x = state();
         set(x, "items.all.1.time", 731);
         broken("TIMES that are too far for AKIN ones", x);
@@ -84,6 +89,20 @@ final class SoundTests {
         Newsfold x = state();
         set(x, "desks.0.value.0", 1);
         broken("a value without a STAMP", x);
+        for (int desk = 0; desk < 3; desk++) {
+            for (int place : new int[] {0, 1, 80, 159}) {
+                x = Edge.forty();
+                x.mark((desk + 1) % 3, 7, 3, 1);
+                x.mark((desk + 2) % 3, 7, 3, 1);
+                x.mark((desk + 2) % 3, 7, 3, 2);
+                Check.is("isSound: unlike ROWS", x.isSound(), true);
+                set(x, "desks." + desk + ".value." + place, 1);
+                broken("a value without a STAMP at " + place, x);
+                set(x, "desks." + desk + ".value." + place, 0);
+                set(x, "desks." + desk + ".stamp." + place, 3 * 9 + desk);
+                broken("a STAMP above the ROW at " + place, x);
+            }
+        }
         x = state();
         set(x, "desks.1.stamp.4", 3 * (int) get(x, "desks.1.row.0") + 3);
         broken("a STAMP whose count is above the ROW", x);
@@ -101,6 +120,24 @@ final class SoundTests {
         x = state();
         set(x, "desks.2.knows.5", (int) get(x, "desks.1.row.2") + 1);
         broken("KNOWN above the ROW, of another DESK", x);
+        for (int i = 0; i < 27; i++) {
+            x = state();
+            int row = (int) get(x, "desks." + i / 3 % 3 + ".row." + i % 3);
+            if (i / 9 != i / 3 % 3) {
+                set(x, "desks." + i / 9 + ".knows." + i % 9, row + 1);
+                broken("KNOWN number " + i + " above the ROW", x);
+            }
+        }
+        for (int desk = 0; desk < 3; desk++) {
+            for (int place : new int[] {0, 1, 80, 159}) {
+                x = sameRows(desk);
+                set(x, "desks." + desk + ".value." + place, 0);
+                broken("the same ROW with unlike values at " + place, x);
+                x = sameRows(desk);
+                set(x, "desks." + desk + ".stamp." + place, place == 1 ? 6 : 3);
+                broken("the same ROW with unlike STAMPS at " + place, x);
+            }
+        }
         x = state();
         for (int d = 0; d < 3; d++) {
             set(x, "desks.2.row." + d, get(x, "desks.1.row." + d));
@@ -112,6 +149,20 @@ final class SoundTests {
         Check.is("isSound: mended", x.isSound(), true);
         set(x, "desks.2.stamp.11", (int) get(x, "desks.2.stamp.11") - 3);
         broken("the same ROW with unlike STAMPS", x);
+    }
+
+    /** DESK 0 acted; that DESK and it have the same ROW, the third DESK has another one. */
+    private static Newsfold sameRows(int desk) {
+        Newsfold x = Edge.forty();
+        x.mark(0, 0, 1, 1);
+        x.mark(0, 0, 0, 1);
+        x.mark(0, 20, 0, 1);
+        x.mark(0, 39, 3, 1);
+        int other = desk == 0 ? 2 : desk;
+        x.send(0, other);
+        x.arrive(0, false);
+        Check.is("isSound: the same ROW", x.isSound() + " " + x.known(other, other, 0), "true 4");
+        return x;
     }
 
     private static void digests() {
@@ -129,6 +180,22 @@ final class SoundTests {
         set(x, "desks.0.digests.1.size", 1);
         set(x, "desks.0.digests.1.row.0", 1);
         broken("an ITEM in two DIGESTS", x);
+        for (int desk = 0; desk < 3; desk++) {
+            x = Edge.forty();
+            x.zone(desk, 0, 1);
+            x.tick(1);
+            x.zone(desk, 0, 2);
+            x.tick(1);
+            x.zone(desk, 0, 3);
+            x.tick(1);
+            Check.is("isSound: three DIGESTS", x.isSound(), true);
+            set(x, "desks." + desk + ".digests.0.row.39", 19);
+            broken("the first ITEM again as the last one", x);
+            set(x, "desks." + desk + ".digests.0.row.39", 20);
+            set(x, "desks." + desk + ".digests.2.size", 1);
+            set(x, "desks." + desk + ".digests.2.row.0", 39);
+            broken("an ITEM in the first and the third DIGEST", x);
+        }
     }
 
     private static void shownAndApart() {
@@ -136,6 +203,11 @@ final class SoundTests {
         Newsfold x = state();
         set(x, "shown.row.0", 3);
         broken("SHOWN is GONE", x);
+        x = state();
+        x.open(0, 1);
+        x.open(0, 2);
+        set(x, "shown.row.2", 3);
+        broken("the last of SHOWN is GONE", x);
         x = state();
         set(x, "items.apartFrom.3", 1L);
         set(x, "items.apartFrom.0", (long) get(x, "items.apartFrom.0") | 8L);
@@ -145,8 +217,11 @@ final class SoundTests {
     private static void feeds() {
         Sentence.of(49, "and no FEED is DUE ahead of CLOCK.");
         Newsfold x = state();
-        set(x, "feeds.1.due", x.house(3) - 1);
-        broken("a FEED that was DUE", x);
+        for (int feed = 0; feed < 2; feed++) {
+            x = state();
+            set(x, "feeds." + feed + ".due", x.house(3) - 1);
+            broken("a FEED that was DUE", x);
+        }
         set(x, "feeds.1.due", x.house(3));
         Check.is("isSound: a FEED that is DUE now", x.isSound(), true);
         set(x, "feeds.2.due", -1);

@@ -58,6 +58,11 @@ final class StoryEdges {
         Check.is("three, and other WORDS with it", Edge.fetched(0, "0,0,a;1,0,a;2,0,a;3,0,ab;4,0,ba;5,0,aa").common(0, 1), 1);
         Check.is("a WORD of many letters", Edge.fetched(0, "0,0,abcdefghabcdefgh;1,0,abcdefghabcdefgh;2,0,abcdefghabcdefga")
             .common(0, 1), 1);
+        String[] alike = {"efhghcdgahg", "hfccbegcbfc", "dgeeefdf", "eedcdcfeccc"};
+        for (int i = 0; i < 4; i += 2) {
+            Newsfold y = Edge.fetched(0, "0,0,a " + alike[i] + ";1,0,a " + alike[i + 1]);
+            Check.is("WORDS whose signs give the same number modulo 2^32", y.common(0, 1) + " " + y.story(0), "1 0");
+        }
         Newsfold x = Edge.fetched(0, "0,0,a b;1,0,a b;2,0,a b;3,0,c");
         Edge.refetched(x, "3,1,a");
         Check.is("a fourth by another TEXT", x.common(0, 1) + " " + x.story(0), "1 0");
@@ -74,6 +79,8 @@ final class StoryEdges {
         Check.is("one WORD", Edge.fetched(0, "0,0,a b;1,0,a c").story(0), "0");
         Check.is("two", Edge.fetched(0, "0,0,a b;1,0,b a").story(0), "0 1");
         Check.is("five", Edge.fetched(0, "0,0,a b c d e;1,0,e d c b a").story(0), "0 1");
+        Check.is("the fifth of each", Edge.fetched(0, "0,0,a b c d e;1,0,f g h e a").story(0), "0 1");
+        Check.is("the fifth alone", Edge.fetched(0, "0,0,a b c d e;1,0,e").story(0), "0");
         Check.is("one twice", Edge.fetched(0, "0,0,a a;1,0,a a").story(0), "0");
         Check.is("two, one of them twice", Edge.fetched(0, "0,0,a a b;1,0,b a b").story(1), "0 1");
         Check.is("two, one of them not RARE", Edge.fetched(0, "0,0,a b;1,0,a b;2,0,b;3,0,b").story(0), "0");

@@ -370,6 +370,8 @@ final class TextEdges {
         Check.is("96, 97, and 98 before MOD", names(",1,afe;,1,aff;,1,afg"), "196 100 101");
         Check.is("a blank is 0", names(",1,a b"), 100 + (49 + 2) % 97);
         Check.is("the smallest and the greatest one", smallestAndGreatest(), "100 196");
+        Newsfold x = Edge.fetched(0, ",1,afa;,1,aeh;,2,aeh");
+        Check.is("two TEXTS with the same NAME are one ITEM", x.fetched(0) + " " + x.ofItem(0, 1) + x.text(0), "0@0:1+1!0 192aeh");
         Check.is("a long TEXT wraps around at each SIGN", names(",1," + "h".repeat(90)), 100 + remainder("h".repeat(90)));
     }
 
