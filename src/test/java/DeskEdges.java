@@ -17,6 +17,7 @@ final class DeskEdges {
         stillThatStamp();
         knownAtFirst();
         whatALetterHas();
+        rowOfTheSender();
         sendingChangesNoKnown();
         eightLetters();
         markByMark();
@@ -320,6 +321,27 @@ final class DeskEdges {
         Check.is("all MARKS of 40 ITEMS", y.send(0, 2) + " " + y.ofLetter(0, 2) + " " + y.arrive(0, true) + " " + y.arrive(0, false),
             "160 160 160 0");
         Check.is("the last one of them too", y.marked(2, 39, 3, false) + " " + y.marked(2, 39, 3, true), "9 " + 3 * 160);
+    }
+
+    private static void rowOfTheSender() {
+        of("A LETTER from a DESK to another one has the ROW of the sender");
+        Newsfold x = lettered();
+        x.send(1, 2);
+        Check.is("0 for one that did not act, whatever COUNT is", x.ofDesk(1, 0) + " " + x.ofLetter(0, 3) + x.ofLetter(0, 4)
+            + x.ofLetter(0, 5), "1 100");
+        x.arrive(0, false);
+        Check.is("so it is known", x.known(2, 1, 0) + "" + x.known(2, 1, 1) + x.known(2, 2, 1), "100");
+        x.mark(1, 1, 3, 1);
+        x.mark(0, 1, 3, 1);
+        x.mark(0, 1, 3, 2);
+        x.send(0, 1);
+        x.arrive(0, false);
+        x.send(1, 0);
+        Check.is("COUNT is above it", x.ofDesk(1, 0) + " " + x.ofLetter(0, 3) + x.ofLetter(0, 4) + x.ofLetter(0, 5), "3 320");
+        x.undo(1);
+        Check.is("as it was then", x.ofLetter(0, 4) + " " + x.known(1, 1, 1), "2 2");
+        x.mark(1, 2, 3, 1);
+        Check.is("the next ACT is above COUNT", x.ofLetter(0, 4) + " " + x.known(1, 1, 1), "2 4");
     }
 
     private static void sendingChangesNoKnown() {

@@ -285,6 +285,12 @@ final class MorningEdges {
         Newsfold z = Edge.fetched(0, "0,0,a b;1,0,a b;2,0,a b;3,0,a");
         Edge.readOnAll(z, 0, 3);
         Check.is("not as they are behind it", z.forget(0) + " " + z.story(1) + "|" + z.would(0), "2 1 2|");
+        Newsfold v = Edge.fetched(0, "0,0,a;1,0,a b;2,0,a b;3,0,a b");
+        Edge.readOnAll(v, 0, 1);
+        Check.is("nor as they are between", v.would(0) + "|" + v.forget(0) + v.story(2), "0 1|22 3");
+        Newsfold u = Edge.fetched(0, "0,0,a b;1,0,a b;2,0,c;3,0,d e;4,0,e d");
+        Edge.readOnAll(u, 0, 2, 4);
+        Check.is("one goes, two stay with one that is not OLD", u.would(0) + "|" + u.forget(0) + u.list(0, 0), "2|10 1 3 4");
         Newsfold w = StoryEdges.chain();
         for (int desk = 0; desk < 3; desk++) {
             w.upTo(desk, 38);

@@ -32,8 +32,12 @@ final class Sentence {
 
     private Sentence() { }
 
-    /** Has to be called ahead of all quotations. */
+    /** Has to be called ahead of all quotations; without the document they are not checked. */
     static void read(Path document) throws IOException {
+        if (!Files.exists(document)) {
+            System.out.println(document + " is not there: quotations are not checked");
+            return;
+        }
         String all = Files.readString(document);
         String description = between(all, "## Description", "## Promise 1:");
         TOLD[DESCRIPTION] = flat(description);
@@ -74,13 +78,16 @@ final class Sentence {
 
     /** The checks behind that call are of this sentence. */
     static void of(int promise, String words) {
+        if (QUOTED.isEmpty()) {
+            return;
+        }
         Check.is("DOC.md, promise " + promise + ", has: " + words, TOLD[promise].contains(words), true);
         QUOTED.get(promise).add(words);
     }
 
     /** To be called behind all tests. */
     static void checkThatAllAreQuoted() {
-        for (int promise = 0; promise <= PROMISES; promise++) {
+        for (int promise = 0; promise < UNITS.size(); promise++) {
             for (String unit : UNITS.get(promise)) {
                 if (!WITHOUT_EDGE.contains(unit)) {
                     Check.is("a test quotes, of promise " + promise + ": " + unit, isQuoted(promise, unit), true);
