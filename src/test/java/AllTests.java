@@ -7,9 +7,12 @@ public final class AllTests {
 
     private AllTests() { }
 
-    /** The first argument is where Newsfold.java stands. */
+    /** Where Newsfold.java, DOC.md and README.md stand, if elsewhere than seen from the project's folder. */
     public static void main(String[] args) throws IOException {
-        Sentence.read(Path.of(args.length > 1 ? args[1] : "../shared/DOC.md"));
+        Path source = Path.of(args.length > 0 ? args[0] : "src/main/java/Newsfold.java");
+        Path document = Path.of(args.length > 1 ? args[1] : "../shared/DOC.md");
+        Path readme = Path.of(args.length > 2 ? args[2] : "README.md");
+        Sentence.read(document);
         TextTests.run();
         FetchTests.run();
         ItemTests.run();
@@ -29,7 +32,9 @@ public final class AllTests {
         SoundTests.run();
         Sentence.checkThatAllAreQuoted();
         RoomTests.run();
-        LanguageTests.run(Path.of(args.length > 0 ? args[0] : "src/main/java/Newsfold.java"));
+        LanguageTests.run(source, document);
+        CallTests.run();
+        ReadmeTests.run(readme);
         for (int seed = 0; seed < RANDOM_RUNS; seed++) {
             Check.is("random run " + seed, RandomRuns.play(seed), "");
         }

@@ -25,11 +25,28 @@ final class LanguageTests {
 
     private LanguageTests() { }
 
-    static void run(Path source) throws IOException {
+    static void run(Path source, Path document) throws IOException {
         banned(Files.readAllLines(source));
         methodLengths(Files.readAllLines(source));
         face();
+        signatures(Files.readString(source), document);
         classes();
+    }
+
+    /** Each line of the document's face stands in the class as it is told. */
+    private static void signatures(String source, Path document) throws IOException {
+        if (!Files.exists(document)) {
+            return;
+        }
+        int told = 0;
+        for (String line : Files.readAllLines(document)) {
+            if (line.startsWith("    public ") && line.endsWith(";")) {
+                String head = line.substring(0, line.length() - 1);
+                Check.is("rule 1:" + head, source.contains("\n" + head + " {\n"), true);
+                told++;
+            }
+        }
+        Check.is("rule 1: the constructor and the methods that DOC.md tells", told, FACE.size() + 1);
     }
 
     private static void banned(List<String> lines) {
